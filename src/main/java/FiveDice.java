@@ -602,7 +602,8 @@ public final class FiveDice {
     private static final class Turn {
         private final Game game;
         private final long[][] ofHeap = new long[MOST_THROWS][MOST_HEAPS];
-        private final long[][] ofHold = new long[MOST_THROWS + 1][MOST_HEAPS];
+        /** By throws left less one, as none is held when none is left. */
+        private final long[][] ofHold = new long[MOST_THROWS][MOST_HEAPS];
 
         Turn(Game game) {
             this.game = game;
@@ -618,13 +619,13 @@ public final class FiveDice {
         }
 
         long valueOfHold(int hold, int throwsLeft) {
-            return ofHold[throwsLeft][hold];
+            return ofHold[throwsLeft - 1][hold];
         }
 
         int bestHoldOf(int heap, int throwsLeft) {
             long best = ofHeap[throwsLeft][heap];
             for (int hold = 0; hold < heap; hold++) {
-                if (ofHold[throwsLeft][hold] == best && game.heaps.holdsAll(heap, hold)) {
+                if (ofHold[throwsLeft - 1][hold] == best && game.heaps.holdsAll(heap, hold)) {
                     return hold;
                 }
             }
@@ -634,17 +635,17 @@ public final class FiveDice {
         /** From the ground up to so many throws left. */
         void climb(int throwsLeft) {
             for (int k = 1; k <= throwsLeft && k < MOST_THROWS; k++) {
-                throwOthers(ofHeap[k - 1], ofHold[k]);
-                bringToUnit(ofHold[k]);
-                chooseHolds(ofHold[k], ofHeap[k]);
+                throwOthers(ofHeap[k - 1], ofHold[k - 1]);
+                bringToUnit(ofHold[k - 1]);
+                chooseHolds(ofHold[k - 1], ofHeap[k]);
             }
         }
 
         long valueBefore() {
-            int all = game.throwsATurn;
-            climb(all - 1);
-            throwOthers(ofHeap[all - 1], ofHold[all]);
-            return ofHold[all][0];
+            int last = game.throwsATurn - 1;
+            climb(last);
+            throwOthers(ofHeap[last], ofHold[last]);
+            return ofHold[last][0];
         }
 
         /** Adds up over all ways of the dice that are not held, one die at a time. */
