@@ -131,7 +131,7 @@ public final class FiveDice {
         int whole = heapNow;
         int drawn = z;
         for (int i = 0; i < toThrow; i++) {
-            drawn = (drawn * 1103515245 + 12345) & Integer.MAX_VALUE;
+            drawn = (drawn * 1103515245 + 12345) & 0x7fffffff;
             whole = game.heaps.withDie(whole, 1 + (drawn >> 12) % sidesNow);
         }
         return comeToHeap(whole);
