@@ -421,19 +421,19 @@ public final class FiveDicePromises {
         x = begun(3, 4, 3, 2, 1, 9);
         x.fall(432);
         due(13, "all holds the same: the fewest dice", x.bestHold(), 0);
-        // Two alike for 9 points: a held 2 or a held 4 have one worth, the least is told.
+        // Two alike for 9 points: none held is as good as a held 2 or a held 4, with fewer dice.
         x = begun(2, 4, 2, 3, 1, 9);
         x.fall(42);
         due(13, "worthOf(2)", x.worthOf(2), 36);
         due(13, "worthOf(0)", x.worthOf(0), 36);
         due(13, "none as good as one", x.bestHold(), 0);
-        // Three sides of 3 dice: with 124 shown, 12, 14 and 24 miss one: each has 2 of 4.
+        // Just two sides: a held 1 has 9 of 16, as has none; 14 held has 2 of 4.
         x = begun(3, 4, 2, 4, 2, 30);
         x.fall(421);
         due(13, "worthOf(1)", x.worthOf(1), 30 * 4 * 9);
         due(13, "worthOf(14)", x.worthOf(14), 30 * 16 * 2);
         due(13, "worthOf(0)", x.worthOf(0), 30 * 36);
-        due(13, "least of the fewest", x.bestHold(), 0);
+        due(13, "none as good as a held 1", x.bestHold(), 0);
         x = begun(3, 6, 2, 0, 6, 0, 0, 6, 0);
         x.fall(661);
         due(13, "sixes are held", x.bestHold(), 66);
