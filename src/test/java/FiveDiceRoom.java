@@ -30,7 +30,8 @@ public final class FiveDiceRoom {
             for (int s = 2; s <= 6; s++) {
                 for (int t = 1; t <= 3; t++) {
                     for (int rows = 1; rows <= 8; rows++) {
-                        if (calls > 300) {
+                        // A game takes 260 calls at most, and 512 is all that is promised.
+                        if (calls > 250) {
                             x = new FiveDice();
                             calls = 0;
                         }
