@@ -516,6 +516,39 @@ public final class FiveDiceEdges {
         due("fill(0)", x.fill(0), 0);
     }
 
+    private static void promise05AnotherGameIsAsOneOfANewObject() {
+        // Of each game to the next: other sides, other dice, other throws, fewer rows, more rows, other rows alone.
+        int[][] games = {{3, 4, 2, 3}, {3, 2, 2, 3}, {2, 2, 2, 3}, {2, 2, 3, 3}, {2, 2, 3, 1}, {2, 6, 2, 2}, {2, 6, 2, 2},
+            {5, 6, 1, 1}};
+        FiveDice x = new FiveDice();
+        for (int i = 0; i < games.length; i++) {
+            x.end();
+            List<Long> again = playGame(x, games[i], i);
+            List<Long> anew = playGame(new FiveDice(), games[i], i);
+            if (!again.equals(anew)) fault("game " + i + " is told as " + again + ", of a new object as " + anew);
+        }
+    }
+
+    private static List<Long> playGame(FiveDice x, int[] size, int kind) {
+        List<Long> told = new ArrayList<>();
+        x.dice(size[0], size[1], size[2]);
+        for (int i = 0; i < size[3]; i++) x.row((kind + 5 * i) % 6, 1 + i, 30 - 7 * i - kind);
+        told.add((long) x.begin());
+        for (int sum = 0; sum < 80; sum += 9) told.add(x.chance(sum));
+        for (int row = 0; row < size[3]; row++) {
+            told.add((long) x.draw(99 * row));
+            told.add(x.worth());
+            told.add((long) x.bestHold());
+            told.add(x.chance(20));
+            told.add((long) x.hold(x.count(6) % 10));
+            told.add((long) x.draw(row));
+            told.add((long) x.fill(row));
+            told.add(x.luck());
+            told.add(x.slip());
+        }
+        return told;
+    }
+
     // ---- promise 6: fall
 
     private static final int[] ANY_NUMBERS = {0, 1, 4, 5, 11, 24, 111, 244, 115, 101, 1111, 11111, 66666, -1, -111, LEAST,
@@ -783,6 +816,29 @@ public final class FiveDiceEdges {
         due("hold(2), no throws left", x.hold(2), NOT);
     }
 
+    private static void promise08EverySizeHasItsParts() {
+        for (int d = 1; d <= 5; d++) {
+            for (int s = 2; s <= 6; s++) {
+                for (int side : new int[] {1, s}) {
+                    for (int held = 0; held <= d + 1; held++) holdAlike(d, s, side, held);
+                }
+            }
+        }
+    }
+
+    /** Of dice that all show one side so many are held. */
+    private static void holdAlike(int d, int s, int side, int held) {
+        int[] ones = {0, 1, 11, 111, 1111, 11111, 111111};
+        FiveDice x = begun(d, s, 2, 5, 1, 0);
+        x.fall(side * ones[d]);
+        int number = side * ones[held];
+        String what = "hold(" + number + ") of " + d + " dice";
+        due("worthOf ahead of " + what, x.worthOf(number) >= 0 ? 1 : 0, held > d ? 0 : 1);
+        due(what, x.hold(number), held > d ? OUTSIDE : d - held);
+        due("count(6) behind " + what, x.count(6), held > d ? side * ones[d] : number);
+        due("count(7) behind " + what, x.count(7), held == d ? 0 : 1);
+    }
+
     private static void promise12NotAheadOfOutside() {
         for (Stage stage : Stage.values()) {
             if (!stage.mayHold()) eachRefused(stage, "worthOf", ANY_NUMBERS, FiveDice::worthOf, NOT);
@@ -980,6 +1036,70 @@ public final class FiveDiceEdges {
         due("worth of the hold", x.worth(), 21);
     }
 
+    /** Heaps of so many dice, as they are told. */
+    private static List<Integer> heaps(int d, int s) {
+        List<Integer> found = new ArrayList<>(List.of(0));
+        for (int i = 0; i < d; i++) {
+            List<Integer> larger = new ArrayList<>();
+            for (int heap : found) {
+                for (int side = Math.max(1, heap % 10); side <= s; side++) larger.add(10 * heap + side);
+            }
+            found = larger;
+        }
+        return found;
+    }
+
+    private interface Heap {
+        void of(int d, int s, int heap);
+    }
+
+    private static void eachHeap(Heap check) {
+        for (int d = 1; d <= 5; d++) {
+            for (int s = 2; s <= 6; s++) {
+                for (int heap : heaps(d, s)) check.of(d, s, heap);
+            }
+        }
+    }
+
+    private static void promise11OfEveryHeapInAll() {
+        // In one row of all, dice are on their own: each counts what it shows, or the mean if that is more.
+        eachHeap((d, s, heap) -> {
+            FiveDice x = begun(d, s, 2, 5, 1, 0);
+            x.fall(heap);
+            int twice = 0;
+            for (int rest = heap; rest > 0; rest /= 10) twice += Math.max(2 * (rest % 10), s + 1);
+            due("worth of " + heap + " of " + s + " sides", 2 * x.worth(), twice * Math.round(Math.pow(s, d)));
+        });
+    }
+
+    private static void promise13OfEveryHeapInAll() {
+        // A die that shows just the mean is as good thrown again: it is not held, as of several the fewest are.
+        eachHeap((d, s, heap) -> {
+            FiveDice x = begun(d, s, 2, 5, 1, 0);
+            x.fall(heap);
+            StringBuilder held = new StringBuilder("0");
+            for (char figure : ("" + heap).toCharArray()) {
+                if (2 * (figure - '0') > s + 1) held.append(figure);
+            }
+            due("bestHold of " + heap + " of " + s + " sides", x.bestHold(), Integer.parseInt(held.toString()));
+        });
+    }
+
+    private static void promise11And13And14And15WhereNothingIsWorthAnything() {
+        FiveDice x = begun(2, 3, 2, 2, 1, 0, 4, 1, 0);
+        due("worth", x.worth(), 0);
+        x.fall(23);
+        dueWorths("a heap", x, 729, 0, 0, 0);
+        due("worthOf(23)", x.worthOf(23), 0);
+        due("chance(0)", x.chance(0), 729);
+        due("chance(1)", x.chance(1), 0);
+        x.fill(0);
+        x.fall(11);
+        dueWorths("the last heap", x, 9, 0, 0, 1);
+        due("fill(1)", x.fill(1), 0);
+        dueLuckAndSlip("all is filled", x, 0, 0);
+    }
+
     private static void promise13NotAsForHold() {
         for (Stage stage : Stage.values()) {
             if (!stage.mayHold()) dueUnchanged(stage, "bestHold", FiveDice::bestHold, NOT);
@@ -1152,6 +1272,28 @@ public final class FiveDiceEdges {
         due("chance(337)", x.chance(337), 0);
         due("chance(264)", x.chance(264), 1L << 48);
         due("chance(265)", x.chance(265), (1L << 48) - 1);
+    }
+
+    private static void promise15MostDiceAndSides() {
+        // Three rows of all and 30, five dice of 6 sides: 35 to 60 each.
+        FiveDice x = begun(5, 6, 1, 5, 1, 30, 5, 1, 30, 5, 1, 30);
+        due("chance(105)", x.chance(105), 470184984576L);
+        due("chance(106)", x.chance(106), 470184984575L);
+        due("chance(180)", x.chance(180), 1);
+        due("chance(181)", x.chance(181), 0);
+        x.fall(66666);
+        due("chance(180) of five sixes", x.chance(180), 1);
+        due("chance(130) of five sixes", x.chance(130), 60466176);
+        due("chance(131) of five sixes", x.chance(131), 60466175);
+    }
+
+    private static void promise15NoPointsOfOneHeapAlone() {
+        // The least of a row is due to its first heap alone, its last, or one between.
+        dueChances("ones", begun(1, 2, 1, 0, 1, 0), 0, 2, 1, 1, 2, 0);
+        dueChances("twos", begun(1, 2, 1, 0, 2, 0), 0, 2, 1, 1, 2, 1, 3, 0);
+        dueChances("no two alike", begun(2, 2, 1, 1, 2, 0), 0, 4, 1, 2, 2, 2, 3, 1, 4, 1, 5, 0);
+        dueChances("ones and twos", begun(1, 2, 1, 0, 1, 0, 0, 2, 0), 0, 4, 1, 4, 2, 3, 3, 2, 4, 0);
+        dueChances("twos and ones", begun(1, 2, 1, 0, 2, 0, 0, 1, 0), 0, 4, 1, 4, 2, 3, 3, 2, 4, 0);
     }
 
     private static void promise15NoMoreForAGreaterSum() {
