@@ -2,7 +2,7 @@ import java.lang.management.ManagementFactory;
 import java.math.BigInteger;
 import java.util.Random;
 
-/** Games of every size: those that are not LARGE begin, come to their sum, and take little room. */
+/** Games of every size: those that are not LARGE begin, come to their sum, take little room; none throws. */
 public final class FiveDiceRoom {
     private static int wrong = 0;
 
@@ -18,6 +18,7 @@ public final class FiveDiceRoom {
         roomOfChances();
         roomOfManyGames();
         roomOfNewObjects();
+        neverThrows();
         System.out.println(wrong == 0 ? "all games come to their sum, in little room" : wrong + " faults");
         if (wrong != 0) System.exit(1);
     }
@@ -141,5 +142,58 @@ public final class FiveDiceRoom {
         long all = 1;
         for (int i = 0; i < 8; i++) all *= 56;
         return all;
+    }
+
+    /** Behind the 512th call answers are free, and are not looked at here; but no call may throw there either. */
+    private static void neverThrows() {
+        Random random = new Random(11);
+        FiveDice x = new FiveDice();
+        for (int i = 0; i < 40000; i++) {
+            try {
+                anyCall(x, random);
+                // A game that has come to its end would refuse all that follows.
+                if (x.count(9) == 1 && x.count(4) == x.count(3)) x.end();
+            } catch (RuntimeException e) {
+                due("call " + i + " threw " + e, 1, 0);
+                return;
+            }
+        }
+    }
+
+    private static long anyCall(FiveDice x, Random random) {
+        int a = anyNumber(x, random);
+        switch (random.nextInt(20)) {
+            case 0: return x.dice(1 + random.nextInt(5), 2 + random.nextInt(5), 1 + random.nextInt(3));
+            case 1: return x.dice(a, anyNumber(x, random), anyNumber(x, random));
+            case 2: return x.row(random.nextInt(6), 1 + random.nextInt(6), random.nextInt(31));
+            case 3: return x.row(a, anyNumber(x, random), anyNumber(x, random));
+            case 4: return x.begin();
+            case 5: return random.nextInt(60) == 0 ? x.end() : 0;
+            case 6: return x.fall(a);
+            case 7: return x.draw(a);
+            case 8: return x.hold(a);
+            case 9: return x.hold(x.bestHold());
+            case 10: return x.fill(a);
+            case 11: return x.fill(x.bestRow());
+            case 12: return x.worth() + x.unit();
+            case 13: return x.worthOf(a);
+            case 14: return x.chance(a);
+            case 15: return x.chance(random.nextInt(60));
+            case 16: return x.points(random.nextInt(9), a) + x.ways(a);
+            case 17: return x.filled(a);
+            case 18: return x.luck() + x.slip();
+            default: return x.count(a);
+        }
+    }
+
+    private static int anyNumber(FiveDice x, Random random) {
+        switch (random.nextInt(6)) {
+            case 0: return random.nextInt(11) - 1;
+            case 1: return random.nextInt();
+            case 2: return x.count(6);
+            case 3: return x.count(6) / 10;
+            case 4: return random.nextBoolean() ? Integer.MIN_VALUE : Integer.MAX_VALUE;
+            default: return 11111 % (int) Math.pow(10, random.nextInt(7)) * (1 + random.nextInt(6));
+        }
     }
 }
