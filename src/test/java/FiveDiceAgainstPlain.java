@@ -80,11 +80,11 @@ public final class FiveDiceAgainstPlain {
             return new int[] {1, random.nextInt(6), 1 + random.nextInt(6), random.nextInt(31)};
         }
 
-        /** Few dice most of the time, as only then many rows are not LARGE. */
+        /** Few dice where rows are many, as only then they are not LARGE. */
         private int[] dice() {
-            if (many) return new int[] {0, 1 + random.nextInt(2), 2, 1 + random.nextInt(3)};
+            if (many) return new int[] {0, 1 + random.nextInt(2), 2 + random.nextInt(3), 1 + random.nextInt(3)};
             if (random.nextInt(6) == 0) return new int[] {0, 5, 6, 3};
-            return new int[] {0, 1 + random.nextInt(4), 2 + random.nextInt(5), 1 + random.nextInt(3)};
+            return new int[] {0, 1 + random.nextInt(5), 2 + random.nextInt(5), 1 + random.nextInt(3)};
         }
 
         private int[] look(Plain p) {
