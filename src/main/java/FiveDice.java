@@ -132,7 +132,7 @@ public final class FiveDice {
         int drawn = z;
         for (int i = 0; i < toThrow; i++) {
             drawn = (drawn * 1103515245 + 12345) & 0x7fffffff;
-            whole = game.heaps.withDie(whole, 1 + (drawn >> 12) % sidesNow);
+            whole = game.heaps.withDie(whole, sideOf(drawn, sidesNow));
         }
         return comeToHeap(whole);
     }
@@ -150,7 +150,7 @@ public final class FiveDice {
             throwsLeft--;
         } else {
             heapNow = held;
-            toThrow = diceNow - game.heaps.size[held];
+            toThrow = diceNow - at(game.heaps.size, held);
         }
         slipSoFar += ahead - stand();
         return toThrow;
@@ -176,7 +176,7 @@ public final class FiveDice {
     // ---- what it is worth
 
     public long unit() {
-        return begun ? game.units[unitPower()] : NOT;
+        return begun ? at(game.units, unitPower()) : NOT;
     }
 
     public long worth() {
@@ -195,7 +195,7 @@ public final class FiveDice {
         if (!mayHold()) {
             return NOT;
         }
-        return game.heaps.told[worths.turn.bestHoldOf(heapNow, throwsLeft)];
+        return at(game.heaps.told, worths.turn.bestHoldOf(heapNow, throwsLeft));
     }
 
     public int bestRow() {
@@ -253,7 +253,7 @@ public final class FiveDice {
             case 3: return rowCount;
             case 4: return Integer.bitCount(sheet);
             case 5: return sum;
-            case 6: return game.heaps.told[heapNow];
+            case 6: return at(game.heaps.told, heapNow);
             case 7: return throwsLeft;
             case 8: return toThrow;
             case 9: return begun ? 1 : 0;
@@ -313,7 +313,7 @@ public final class FiveDice {
         toThrow = 0;
         throwsLeft--;
         luckSoFar += stand() - ahead;
-        return game.heaps.told[whole];
+        return at(game.heaps.told, whole);
     }
 
     /** THE UNIT here is this power of what one throw of all dice has ways. */
@@ -323,7 +323,7 @@ public final class FiveDice {
     }
 
     private long worthHere() {
-        return inTurn ? valueIn(worths.turn) : worths.before[sheet];
+        return inTurn ? valueIn(worths.turn) : at(worths.before, sheet);
     }
 
     private long valueIn(Turn turn) {
@@ -332,7 +332,20 @@ public final class FiveDice {
 
     private long stand() {
         int whole = throwsNow * rowCount;
-        return sum * game.units[whole] + worthHere() * game.units[whole - unitPower()];
+        return sum * at(game.units, whole) + worthHere() * at(game.units, whole - unitPower());
+    }
+
+    private static int sideOf(int drawn, int sides) {
+        return sides < 1 ? 1 : 1 + (drawn >> 12) % sides;
+    }
+
+    /** Many indexes are kept right far from where they are used, so they are looked at once more there. */
+    private static int at(int[] numbers, int index) {
+        return index >= 0 && index < numbers.length ? numbers[index] : 0;
+    }
+
+    private static long at(long[] numbers, int index) {
+        return index >= 0 && index < numbers.length ? numbers[index] : 0;
     }
 
     /** How many dice show each side. */
@@ -401,9 +414,9 @@ public final class FiveDice {
             int same = 1;
             for (int side = 1; side <= MOST_SIDES; side++) {
                 dice += shown[side];
-                same *= FACTORIAL[shown[side]];
+                same *= at(FACTORIAL, shown[side]);
             }
-            return FACTORIAL[dice] / same;
+            return same == 0 ? 0 : at(FACTORIAL, dice) / same;
         }
     }
 
@@ -493,7 +506,7 @@ public final class FiveDice {
 
         /** A heap and one die more; a heap that is whole stays as it is. */
         int withDie(int heap, int side) {
-            if (size[heap] >= dice || side < 1 || side > sides) {
+            if (heap < 0 || heap >= count || size[heap] >= dice || side < 1 || side > sides) {
                 return heap;
             }
             return next[heap * MOST_SIDES + side - 1];
@@ -505,7 +518,7 @@ public final class FiveDice {
             int rest = number;
             for (int i = 0; i < figures; i++) {
                 int side = rest % 10;
-                if (side < 1 || side > sides || size[whole] >= dice) {
+                if (side < 1 || side > sides || at(size, whole) >= dice) {
                     return NONE;
                 }
                 whole = withDie(whole, side);
@@ -532,8 +545,8 @@ public final class FiveDice {
 
         /** As figures rise in both, each of the part is found behind the one before it. */
         boolean holdsAll(int heap, int part) {
-            int sought = told[part];
-            int rest = told[heap];
+            int sought = at(told, part);
+            int rest = at(told, heap);
             for (int i = 0; i < MOST_DICE && sought != 0; i++) {
                 if (rest % 10 == sought % 10) {
                     sought /= 10;
@@ -555,30 +568,30 @@ public final class FiveDice {
 
         void prepare(int dice, int sides, int throwsOfGame, int rowsOfGame) {
             heaps.build(dice, sides);
-            throwsATurn = throwsOfGame;
-            rowCount = rowsOfGame;
+            throwsATurn = Math.max(1, Math.min(throwsOfGame, MOST_THROWS));
+            rowCount = Math.min(rowsOfGame, MOST_ROWS);
             powersOfSides[0] = 1;
-            for (int i = 1; i <= dice; i++) {
+            for (int i = 1; i <= dice && i <= MOST_DICE; i++) {
                 powersOfSides[i] = powersOfSides[i - 1] * sides;
             }
             units[0] = 1;
             for (int i = 1; i <= throwsATurn * rowCount; i++) {
-                units[i] = units[i - 1] * powersOfSides[dice];
+                units[i] = units[i - 1] * at(powersOfSides, dice);
             }
         }
 
         void writePoints(Row[] rows, Tally tally) {
             int whole = heaps.wholeCount();
             for (int i = 0; i < whole; i++) {
-                tally.read(heaps.told[heaps.firstWhole + i], heaps.dice, heaps.sides);
-                for (int row = 0; row < rowCount; row++) {
+                tally.read(at(heaps.told, heaps.firstWhole + i), heaps.dice, heaps.sides);
+                for (int row = 0; row < rowCount && row * whole + i < MOST_CELLS; row++) {
                     points[row * whole + i] = rows[row].pointsOf(tally);
                 }
             }
         }
 
         int pointsAt(int row, int heap) {
-            return points[row * heaps.wholeCount() + heap - heaps.firstWhole];
+            return at(points, row * heaps.wholeCount() + heap - heaps.firstWhole);
         }
 
         int freeRows(int sheet) {
@@ -594,7 +607,7 @@ public final class FiveDice {
         }
 
         long unitBefore(int sheet) {
-            return units[throwsATurn * freeRows(sheet)];
+            return at(units, throwsATurn * freeRows(sheet));
         }
     }
 
@@ -615,17 +628,17 @@ public final class FiveDice {
         }
 
         long valueOfHeap(int heap, int throwsLeft) {
-            return ofHeap[throwsLeft][heap];
+            return throwsLeft >= 0 && throwsLeft < MOST_THROWS ? at(ofHeap[throwsLeft], heap) : 0;
         }
 
         long valueOfHold(int hold, int throwsLeft) {
-            return ofHold[throwsLeft - 1][hold];
+            return throwsLeft >= 1 && throwsLeft <= MOST_THROWS ? at(ofHold[throwsLeft - 1], hold) : 0;
         }
 
         int bestHoldOf(int heap, int throwsLeft) {
-            long best = ofHeap[throwsLeft][heap];
+            long best = valueOfHeap(heap, throwsLeft);
             for (int hold = 0; hold < heap; hold++) {
-                if (ofHold[throwsLeft - 1][hold] == best && game.heaps.holdsAll(heap, hold)) {
+                if (valueOfHold(hold, throwsLeft) == best && game.heaps.holdsAll(heap, hold)) {
                     return hold;
                 }
             }
@@ -643,6 +656,9 @@ public final class FiveDice {
 
         long valueBefore() {
             int last = game.throwsATurn - 1;
+            if (last < 0 || last >= MOST_THROWS) {
+                return 0;
+            }
             climb(last);
             throwOthers(ofHeap[last], ofHold[last]);
             return ofHold[last][0];
@@ -656,7 +672,7 @@ public final class FiveDice {
                 int first = hold * MOST_SIDES;
                 long total = 0;
                 for (int side = 0; side < heaps.sides; side++) {
-                    total += sums[heaps.next[first + side]];
+                    total += at(sums, heaps.next[first + side]);
                 }
                 sums[hold] = total;
             }
@@ -666,7 +682,7 @@ public final class FiveDice {
         private void bringToUnit(long[] sums) {
             Heaps heaps = game.heaps;
             for (int hold = 0; hold < heaps.count; hold++) {
-                sums[hold] *= game.powersOfSides[heaps.size[hold]];
+                sums[hold] *= at(game.powersOfSides, heaps.size[hold]);
             }
         }
 
@@ -678,7 +694,7 @@ public final class FiveDice {
                 int first = part * MOST_SIDES;
                 for (int side = 0; side < heaps.sides; side++) {
                     int larger = heaps.next[first + side];
-                    if (best[larger] < best[part]) {
+                    if (larger >= 0 && larger < best.length && best[larger] < best[part]) {
                         best[larger] = best[part];
                     }
                 }
@@ -717,7 +733,7 @@ public final class FiveDice {
             for (int row = 0; row < game.rowCount; row++) {
                 if (game.isFree(sheet, row)) {
                     int behind = sheet | 1 << row;
-                    long worth = game.pointsAt(row, heap) * game.unitBefore(behind) + before[behind];
+                    long worth = game.pointsAt(row, heap) * game.unitBefore(behind) + at(before, behind);
                     if (worth > bestWorth) {
                         best = row;
                         bestWorth = worth;
@@ -736,9 +752,9 @@ public final class FiveDice {
                 if (game.isFree(sheet, row)) {
                     int behind = sheet | 1 << row;
                     long unit = game.unitBefore(behind);
-                    long rest = before[behind];
+                    long rest = at(before, behind);
                     for (int i = 0; i < whole; i++) {
-                        long worth = game.points[row * whole + i] * unit + rest;
+                        long worth = at(game.points, row * whole + i) * unit + rest;
                         ground[first + i] = Math.max(ground[first + i], worth);
                     }
                 }
@@ -819,9 +835,9 @@ public final class FiveDice {
 
         private int leastOfRow(int row) {
             int whole = game.heaps.wholeCount();
-            int result = game.points[row * whole];
+            int result = at(game.points, row * whole);
             for (int i = 1; i < whole; i++) {
-                result = Math.min(result, game.points[row * whole + i]);
+                result = Math.min(result, at(game.points, row * whole + i));
             }
             return result;
         }
@@ -830,19 +846,19 @@ public final class FiveDice {
             int whole = game.heaps.wholeCount();
             int result = 0;
             for (int i = 0; i < whole; i++) {
-                result = Math.max(result, game.points[row * whole + i]);
+                result = Math.max(result, at(game.points, row * whole + i));
             }
             return result;
         }
 
         private long ofSheet(int sheet, int need, int depth) {
-            if (need <= least[sheet]) {
+            if (need <= at(least, sheet)) {
                 return game.unitBefore(sheet);
             }
-            if (need > most[sheet] || depth >= game.rowCount) {
+            int cell = at(start, sheet) + need - at(least, sheet) - 1;
+            if (need > at(most, sheet) || depth >= game.rowCount || cell < 0 || cell >= kept.length) {
                 return 0;
             }
-            int cell = start[sheet] + need - least[sheet] - 1;
             if (kept[cell] == NONE) {
                 layGround(sheet, need, depth);
                 kept[cell] = turn.valueBefore();
@@ -861,7 +877,7 @@ public final class FiveDice {
                 if (game.isFree(sheet, row)) {
                     int behind = sheet | 1 << row;
                     for (int i = 0; i < whole; i++) {
-                        long value = ofSheet(behind, need - game.points[row * whole + i], depth + 1);
+                        long value = ofSheet(behind, need - at(game.points, row * whole + i), depth + 1);
                         grounds[first + i] = Math.max(grounds[first + i], value);
                     }
                 }
